@@ -211,6 +211,8 @@ public final class CarryTest {
             x -> x.bestCarrier(0));
         Check.answers("bestCarrier, only one can", 1, x -> { x.house(9, 0); x.order(0, 4); x.carrier(1); x.carrier(1);
             x.days(7); x.load(9); x.drive(1); x.carry(0, 3); }, x -> x.bestCarrier(0));
+        Check.answers("bestCarrier, just one sack", 0, x -> { x.house(9, 0); x.order(0, 4); x.carrier(1); x.days(7);
+            x.load(9); x.drive(1); x.carry(0, 2); }, x -> x.bestCarrier(0));
         Check.thrown("bestCarrier, nobody can", NoSuchElementException.class, x -> { x.house(9, 0); x.order(0, 4);
             x.carrier(1); x.days(7); x.load(9); x.drive(1); x.carry(0, 3); }, x -> x.bestCarrier(0));
         Check.thrown("bestCarrier, no carriers", NoSuchElementException.class, x -> x.house(0, 0),

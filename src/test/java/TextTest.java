@@ -73,6 +73,27 @@ public final class TextTest {
         fault(repeated("b;", 30), 60);
         fault(repeated("b;", 29) + "b1", 59);
         fault(repeated("d1;", 19) + "c1*", 60);
+        fault("d10;" + repeated("d1;", 18) + "c1", 60);
+        fault("d10;" + repeated("d1;", 18) + "p1", 60);
+        fault("d1;d10;" + repeated("d1;", 17) + "gg", 59);
+        afterALongerText("c1*", "c1", 2);
+        afterALongerText("p1=1;p1=1", "p1", 2);
+        afterALongerText("d1;d11", "d1;d", 4);
+        afterALongerText("g1;c1*1", "g1;", 3);
+    }
+
+    /** What an earlier text left in the buffer does not continue a shorter one. */
+    private static void afterALongerText(String longer, String text, int position) {
+        CoalStairs x = new CoalStairs();
+        Check.append(x, longer);
+        try {
+            x.commands();
+        } catch (RuntimeException e) {
+            Check.due("the buffer after " + longer, x.account(15), 0);
+        }
+        Check.append(x, text);
+        thrownByCommands(x, text, IllegalArgumentException.class);
+        Check.due("fault of " + text + " after " + longer, x.faultPosition(), position);
     }
 
     private static void strangeCharacters() {

@@ -171,6 +171,10 @@ public final class UndoTest {
             CoalStairs::undo);
         Check.answers("undo does not touch the snapshot", 9, y -> { y.days(9); y.save(); y.undo(); },
             CoalStairs::restore);
+        Check.answers("restore a house in place of another", 52, y -> { y.house(5, 2); y.save(); y.undo();
+            y.house(1, 0); y.restore(); }, y -> y.houseOf(0, 0) * 10 + y.houseOf(0, 1));
+        Check.answers("restore a carrier in place of another", 7, y -> { y.carrier(7); y.save(); y.undo();
+            y.carrier(1); y.restore(); }, y -> y.carrierOf(0, 0));
         Check.answers("save on day 0", 0, y -> { }, CoalStairs::save);
         Check.answers("restore a new object", 0, y -> { y.save(); evening(y); y.restore(); }, y -> y.account(1));
     }
