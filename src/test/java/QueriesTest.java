@@ -107,6 +107,9 @@ public final class QueriesTest {
             CoalStairs::carriedAgain);
         Check.answers("carried, days later", 8, x -> { evening(x); x.days(9); }, CoalStairs::carried);
         Check.answers("carried by several", 7, QueriesTest::sevenByThree, CoalStairs::carried);
+        Check.answers("carried with all carriers", 9, x -> { sevenByThree(x); x.carrier(9); x.days(7); x.bone();
+            x.carry(3, 2); },
+            CoalStairs::carried);
         Check.answers("carriedAgain by several", 7, QueriesTest::sevenByThree, CoalStairs::carriedAgain);
     }
 
