@@ -28,10 +28,10 @@ public final class AnswerEdgesTest {
                 call + "-1 0" + NO_INDEX, call + "2 0" + NO_INDEX, call + "2147483647 0" + NO_INDEX,
                 call + "-2147483648 0" + NO_INDEX, call + "-1 -1" + NO_INDEX, call + "2 " + (most + 1) + NO_INDEX);
         }
-        Script.run("the eighth house and the fourth carrier", "8 times house 9 0", "4 times carrier 9", "houseOf 7 0 = 9",
-            "carrierOf 3 0 = 9", "houseOf 8 0" + NO_INDEX, "carrierOf 4 0" + NO_INDEX);
-        Script.run("a house and a carrier that are undone", "house 1 0", "carrier 1", "undo", "undo", "houseOf 0 0" + NO_INDEX,
-            "carrierOf 0 0" + NO_INDEX);
+        Script.run("the eighth house and the fourth carrier", "8 times house 9 0", "4 times carrier 9",
+            "houseOf 7 0 = 9", "carrierOf 3 0 = 9", "houseOf 8 0" + NO_INDEX, "carrierOf 4 0" + NO_INDEX);
+        Script.run("a house and a carrier that are undone", "house 1 0", "carrier 1", "undo", "undo",
+            "houseOf 0 0" + NO_INDEX, "carrierOf 0 0" + NO_INDEX);
         then("sacks so far stay over days", DOOR, "carry 0 4", "houseOf 0 7 = 4", "carrierOf 0 3 = 4", "days 30",
             "carry 1 2", "houseOf 0 7 = 6", "carrierOf 0 3 = 4", "carrierOf 1 3 = 2");
         Script.run("what the dogs let", "house 0 0", "house 0 1", "house 0 2", "houseOf 0 6 = 99", "houseOf 1 6 = 2",
@@ -42,10 +42,12 @@ public final class AnswerEdgesTest {
     private static void ranks() {
         String none = " throws NoSuchElementException";
         Script.run("no houses", "ranked 0" + none, "ranked -1" + none, "ranked 2147483647" + none);
-        Script.run("one house", "house 0 0", "ranked 0 = 0", "ranked 1" + none, "ranked -1" + none, "ranked -2147483648" + none);
-        Script.run("all alike", "8 times house 0 0", "ranked 0 = 0", "ranked 3 = 3", "ranked 7 = 7", "ranked 8" + none);
-        Script.run("by sacks due", "4 times house 0 0", "order 1 1", "order 2 2", "order 3 1", "days 7", "ranked 0 = 2",
-            "ranked 1 = 1", "ranked 2 = 3", "ranked 3 = 0");
+        Script.run("one house", "house 0 0", "ranked 0 = 0", "ranked 1" + none, "ranked -1" + none,
+            "ranked -2147483648" + none);
+        Script.run("all alike", "8 times house 0 0", "ranked 0 = 0", "ranked 3 = 3", "ranked 7 = 7",
+            "ranked 8" + none);
+        Script.run("by sacks due", "4 times house 0 0", "order 1 1", "order 2 2", "order 3 1", "days 7",
+            "ranked 0 = 2", "ranked 1 = 1", "ranked 2 = 3", "ranked 3 = 0");
         Script.run("arrears ahead of sacks due", "2 times house 0 0", "order 0 4", "order 1 1", "carrier 9", "days 7",
             "load 1", "drive 2", "ranked 0 = 0", "carry 0 1", "ranked 0 = 1", "pay 1 2", "ranked 0 = 1", "pay 1 1",
             "ranked 0 = 0", "ranked 1 = 1");
@@ -58,6 +60,8 @@ public final class AnswerEdgesTest {
             "carriedAgain = 1", "pay 0 1", "carriedAgain = 1", "carried = 1", "undo", "undo", "undo", "undo",
             "carried = 0", "carriedAgain = 0");
         then("carriers together", DOOR, "carry 0 2", "carry 1 3", "carried = 5", "carriedAgain = 5");
+        then("all four carriers", DOOR, "2 times carrier 9", "carry 3 1", "carry 2 1", "carry 1 1", "carry 0 1",
+            "carried = 4", "carriedAgain = 4");
         then("a refused carry", DOOR, "carry 0 2", "carry 0 10 refused 1 0", "carried = 2", "carriedAgain = 2");
     }
 
@@ -74,9 +78,9 @@ public final class AnswerEdgesTest {
     private static void shares() {
         String none = "paidShare throws ArithmeticException";
         Script.run("no houses", none, "house 0 0", "carrier 5", none);
-        then("none, some and all paid", DOOR, none, "carry 0 1", "paidShare = 0.0", "pay 0 1", "paidShare = " + 1.0 / 3.0,
-            "pay 0 2", "paidShare = 1.0", "carry 0 2", "paidShare = " + 3.0 / 9.0, "undo", "paidShare = 1.0", "undo", "undo",
-            "paidShare = 0.0", "undo", none);
+        then("none, some and all paid", DOOR, none, "carry 0 1", "paidShare = 0.0", "pay 0 1",
+            "paidShare = " + 1.0 / 3.0, "pay 0 2", "paidShare = 1.0", "carry 0 2", "paidShare = " + 3.0 / 9.0, "undo",
+            "paidShare = 1.0", "undo", "undo", "paidShare = 0.0", "undo", none);
         then("a refused carry", DOOR, "carry 0 10 refused 1 0", none);
     }
 
@@ -88,12 +92,13 @@ public final class AnswerEdgesTest {
             "drive 0", "drive 8", "drive 0", "account 12 = 4", "drive 4 = 0", "account 12 = 0", "account 13 = 20",
             "drive 0", "account 13 = 20");
         Script.run("the changes that can be undone", "account 14 = 0", "8 times load 1", "account 14 = 8", "load 1",
-            "account 14 = 8", "load 0 refused 1 0", "account 14 = 8", "undo = 7", "account 14 = 7", "save", "account 14 = 7",
-            "restore", "account 14 = 0");
+            "account 14 = 8", "load 0 refused 1 0", "account 14 = 8", "undo = 7", "account 14 = 7", "save",
+            "account 14 = 7", "restore", "account 14 = 0");
         Script.run("the characters", "account 15 = 0", "60 times append 49 = 60", "account 15 = 60", "days 1",
-            "account 15 = 60", "undo", "account 15 = 60", "commands throws IllegalArgumentException", "account 15 = 0");
-        then("sums over all houses", new String[] {"8 times house 0 0"}, "order 0 1", "order 7 4", "carrier 9", "days 7",
-            "account 6 = 5", "load 5", "drive 1", "carry 0 1", "drive 8", "carry 0 4", "account 6 = 0", "account 7 = 15",
-            "account 8 = 3", "account 4 = 0", "account 5 = 95");
+            "account 15 = 60", "undo", "account 15 = 60", "commands throws IllegalArgumentException",
+            "account 15 = 0");
+        then("sums over all houses", new String[] {"8 times house 0 0"}, "order 0 1", "order 7 4", "carrier 9",
+            "days 7", "account 6 = 5", "load 5", "drive 1", "carry 0 1", "drive 8", "carry 0 4", "account 6 = 0",
+            "account 7 = 15", "account 8 = 3", "account 4 = 0", "account 5 = 95");
     }
 }

@@ -59,15 +59,16 @@ public final class SackEdgesTest {
             "carry 0 1 = 1");
         Script.run("too few on the cart, ahead of too few due", "house 0 0", "order 0 2", "carrier 5", "days 7 = 2",
             "load 3", "drive 1", "carry 0 4 refused 8 3", "carry 0 3 refused 9 2", "carry 0 2 = 2");
-        then("fewer due, ahead of arrears", DOOR, "carry 0 9", "pay 0 27", "mop 1", "carry 0 9", "carry 0 3 refused 9 2",
-            "carry 0 2 refused 10 27");
+        then("fewer due, ahead of arrears", DOOR, "carry 0 9", "pay 0 27", "mop 1", "carry 0 9",
+            "carry 0 3 refused 9 2", "carry 0 2 refused 10 27");
     }
 
     /** "Only if its arrears are not more than 12 coins", looked at once, ahead of the first sack. */
     private static void arrears() {
         then("12 and 15", DOOR, "carry 0 4 = 4", "houseOf 0 4 = 12", "carry 0 1 = 5", "houseOf 0 4 = 15",
             "carry 0 1 refused 10 15");
-        then("12 and 13", DOOR, "carry 0 5", "pay 0 2 = 13", "carry 1 1 refused 10 13", "pay 0 1 = 12", "carry 1 1 = 1");
+        then("12 and 13", DOOR, "carry 0 5", "pay 0 2 = 13", "carry 1 1 refused 10 13", "pay 0 1 = 12",
+            "carry 1 1 = 1");
         then("nine sacks from 12", DOOR, "carry 0 4", "carry 1 9 = 9", "houseOf 0 4 = 39", "carry 0 1 refused 10 39");
         then("arrears, ahead of footprints", DOOR, "carry 0 8", "houseOf 0 5 = 9", "carry 0 1 refused 10 24",
             "pay 0 12 = 12", "carry 0 1 refused 11 9");
@@ -103,8 +104,8 @@ public final class SackEdgesTest {
             "carry 1 9 = 9", "days 1", "houseOf 0 6 = 2");
         then("fierce", atDoor(0, 2), "carry 0 1 refused 12 0", "carry 0 9 refused 12 0", "houseOf 0 6 = 0", "bone = 2",
             "carry 0 9 = 9", "houseOf 0 6 = 99", "days 1", "houseOf 0 6 = 0");
-        then("the dog, ahead of the tiredness", atDoor(9, 1), "carry 1 4 refused 12 2", "bone", "carry 1 4 refused 13 40",
-            "carry 1 3 = 30");
+        then("the dog, ahead of the tiredness", atDoor(9, 1), "carry 1 4 refused 12 2", "bone",
+            "carry 1 4 refused 13 40", "carry 1 3 = 30");
         then("none", DOOR, "carry 0 9", "houseOf 0 6 = 99");
     }
 
@@ -112,8 +113,8 @@ public final class SackEdgesTest {
     private static void tired() {
         then("just 30, at once", atDoor(9, 0), "carry 0 6 refused 13 36", "carry 0 5 = 30", "pay 0 15",
             "carry 0 1 refused 13 36", "carry 0 9 refused 13 84");
-        then("just 30, the weakest", atDoor(9, 0), "carry 1 4 refused 13 40", "carry 1 9 refused 13 90", "carry 1 3 = 30",
-            "carry 1 1 refused 13 40");
+        then("just 30, the weakest", atDoor(9, 0), "carry 1 4 refused 13 40", "carry 1 9 refused 13 90",
+            "carry 1 3 = 30", "carry 1 1 refused 13 40");
         then("30 and 31", TIRED_BY_29, "carry 0 2 refused 13 31", "carry 0 1 = 30", "carry 0 1 refused 13 31",
             "carrierOf 0 1 = 30", "days 1", "carrierOf 0 1 = 22", "carry 0 1 = 23");
         then("a refused carrier is as before", TIRED_BY_29, "carry 0 2 refused 13 31", "carrierOf 0 1 = 29",
@@ -123,8 +124,8 @@ public final class SackEdgesTest {
     /** Promise 8, the reasons 7, 14 and 15, "there are 3 bones at first". */
     private static void bonesGiven() {
         String[] threeDogs = {"house 0 0", "house 0 1", "house 0 2", "house 0 1", "house 0 2"};
-        then("the last bone", threeDogs, "drive 2", "bone = 2", "drive 3", "bone = 1", "drive 4", "bone = 0", "drive 5",
-            "bone refused 15 0", "account 11 = 0", "bones 1 = 1", "bone = 0");
+        then("the last bone", threeDogs, "drive 2", "bone = 2", "drive 3", "bone = 1", "drive 4", "bone = 0",
+            "drive 5", "bone refused 15 0", "account 11 = 0", "bones 1 = 1", "bone = 0");
         then("no dog, ahead of no bone", threeDogs, "drive 2", "bone", "drive 3", "bone", "drive 4", "bone = 0",
             "bone refused 14 3", "drive 1", "bone refused 14 0", "drive 0", "bone refused 7 0");
         then("it has a bone until the day is over", threeDogs, "drive 2", "bone = 2", "bone refused 14 1", "days 1",
@@ -135,10 +136,11 @@ public final class SackEdgesTest {
 
     /** Promise 9, "how many, 1 to 9", "a bone costs a coin". */
     private static void bonesBought() {
-        Script.run("the least and the most", "bones 1 = 4", "bones 9 = 13", "bones 0 refused 1 0", "bones 10 refused 1 0",
-            "bones -1 refused 1 0", "bones 2147483647 refused 1 0", "bones -2147483648 refused 1 0", "account 9 = 10");
-        Script.run("the last coins", "bones 9", "bones 9", "bones 3 refused 16 1", "bones 9 refused 16 7", "bones 2 = 23",
-            "account 9 = 0", "bones 1 refused 16 1", "bones 9 refused 16 9", "bones 10 refused 1 0",
+        Script.run("the least and the most", "bones 1 = 4", "bones 9 = 13", "bones 0 refused 1 0",
+            "bones 10 refused 1 0", "bones -1 refused 1 0", "bones 2147483647 refused 1 0",
+            "bones -2147483648 refused 1 0", "account 9 = 10");
+        Script.run("the last coins", "bones 9", "bones 9", "bones 3 refused 16 1", "bones 9 refused 16 7",
+            "bones 2 = 23", "account 9 = 0", "bones 1 refused 16 1", "bones 9 refused 16 9", "bones 10 refused 1 0",
             "bones 0 refused 1 0", "account 11 = 23");
     }
 
@@ -157,8 +159,8 @@ public final class SackEdgesTest {
         then("no footprints, ahead of the tiredness", TIRED_BY_29, "mop 0 refused 18 1");
         then("just 30, for one", TIRED_BY_29, "carry 1 3 = 12", "houseOf 1 5 = 1", "mop 0 = 1", "carrierOf 0 1 = 30");
         then("just 30, for two", TIRED_BY_29, "carry 1 4", "houseOf 1 5 = 2", "mop 0 = 2", "carrierOf 0 1 = 30");
-        then("31", TIRED_BY_29, "carry 1 5", "houseOf 1 5 = 3", "mop 0 refused 13 31", "carrierOf 0 1 = 29", "mop 1 = 3",
-            "carrierOf 1 1 = 16");
+        then("31", TIRED_BY_29, "carry 1 5", "houseOf 1 5 = 3", "mop 0 refused 13 31", "carrierOf 0 1 = 29",
+            "mop 1 = 3", "carrierOf 1 1 = 16");
         then("past the dog, whatever the arrears", atDoor(0, 2), "bone", "carry 0 9", "days 1", "mop 0 = 12",
             "houseOf 0 5 = 0", "houseOf 0 4 = 27");
     }
@@ -193,9 +195,10 @@ public final class SackEdgesTest {
         String[] few = {"house 1 0", "house 1 0", "carrier 1"};
         for (String call : new String[] {"tires ", "canCarry "}) {
             String none = " throws IndexOutOfBoundsException";
-            then(call, few, call + "0 1 = " + (call.equals("tires ") ? 2 : 15), call + "1 0" + none, call + "0 2" + none,
-                call + "-1 0" + none, call + "0 -1" + none, call + "-1 -1" + none, call + "2147483647 0" + none,
-                call + "0 2147483647" + none, call + "-2147483648 0" + none, call + "0 -2147483648" + none);
+            then(call, few, call + "0 1 = " + (call.equals("tires ") ? 2 : 15), call + "1 0" + none,
+                call + "0 2" + none, call + "-1 0" + none, call + "0 -1" + none, call + "-1 -1" + none,
+                call + "2147483647 0" + none, call + "0 2147483647" + none, call + "-2147483648 0" + none,
+                call + "0 -2147483648" + none);
         }
     }
 
@@ -217,16 +220,16 @@ public final class SackEdgesTest {
             "mayCarry -1 throws IndexOutOfBoundsException", "mayCarry 2147483647 throws IndexOutOfBoundsException",
             "mayCarry -2147483648 throws IndexOutOfBoundsException", "drive 0",
             "mayCarry 2 throws IndexOutOfBoundsException");
-        Script.run("on the cart", "house 0 0", "order 0 4", "carrier 5", "days 14", "load 8", "drive 1", "mayCarry 0 = 8",
-            "carry 0 4", "mayCarry 0 = 4", "carry 0 4", "mayCarry 0 = 0");
+        Script.run("on the cart", "house 0 0", "order 0 4", "carrier 5", "days 14", "load 8", "drive 1",
+            "mayCarry 0 = 8", "carry 0 4", "mayCarry 0 = 4", "carry 0 4", "mayCarry 0 = 0");
         Script.run("due", "house 0 0", "order 0 4", "carrier 5", "load 30", "drive 1", "mayCarry 0 = 0", "days 7",
             "mayCarry 0 = 4", "days 7", "mayCarry 0 = 8", "days 7", "mayCarry 0 = 9");
-        then("arrears", DOOR, "carry 0 4", "mayCarry 0 = 9", "carry 0 1", "mayCarry 0 = 0", "pay 0 2", "mayCarry 0 = 0",
-            "pay 0 1", "mayCarry 0 = 9");
+        then("arrears", DOOR, "carry 0 4", "mayCarry 0 = 9", "carry 0 1", "mayCarry 0 = 0", "pay 0 2",
+            "mayCarry 0 = 0", "pay 0 1", "mayCarry 0 = 9");
         then("footprints", DOOR, "carry 0 7", "pay 0 21", "mayCarry 1 = 9", "carry 1 3", "mayCarry 1 = 9", "carry 1 1",
             "houseOf 0 5 = 9", "mayCarry 1 = 0", "mop 1", "mayCarry 1 = 9");
-        then("a sleepy dog", atDoor(0, 1), "mayCarry 0 = 2", "carry 1 1", "mayCarry 0 = 1", "carry 1 1", "mayCarry 0 = 0",
-            "bone", "mayCarry 0 = 9", "days 1", "mayCarry 0 = 2");
+        then("a sleepy dog", atDoor(0, 1), "mayCarry 0 = 2", "carry 1 1", "mayCarry 0 = 1", "carry 1 1",
+            "mayCarry 0 = 0", "bone", "mayCarry 0 = 9", "days 1", "mayCarry 0 = 2");
         then("a fierce dog", atDoor(0, 2), "mayCarry 0 = 0", "bone", "mayCarry 0 = 9", "days 1", "mayCarry 0 = 0");
         then("tired", TIRED_BY_29, "mayCarry 0 = 1", "carry 0 1", "mayCarry 0 = 0", "mayCarry 1 = 9");
     }
@@ -239,8 +242,8 @@ public final class SackEdgesTest {
             "bestCarrier -2147483648 throws IndexOutOfBoundsException");
         Script.run("the fourth carrier", "house 9 0", "3 times carrier 1", "carrier 9", "bestCarrier 0 = 3");
         Script.run("all alike", "house 9 0", "4 times carrier 1", "bestCarrier 0 = 0");
-        then("nobody any more", atDoor(9, 0), "bestCarrier 0 = 0", "carry 0 4 = 24", "bestCarrier 0 = 1", "carry 1 2 = 20",
-            "bestCarrier 0 = 1", "pay 0 18", "carry 1 1 = 30", "bestCarrier 0 = 0", "carry 0 1 = 30",
+        then("nobody any more", atDoor(9, 0), "bestCarrier 0 = 0", "carry 0 4 = 24", "bestCarrier 0 = 1",
+            "carry 1 2 = 20", "bestCarrier 0 = 1", "pay 0 18", "carry 1 1 = 30", "bestCarrier 0 = 0", "carry 0 1 = 30",
             "bestCarrier 0 throws NoSuchElementException", "days 1", "bestCarrier 0 = 0");
         String[] alike = {"house 9 2", "house 0 0", "order 1 4", "3 times carrier 5", "days 7", "load 9", "drive 2"};
         then("the least black", alike, "carry 0 2", "carry 1 1", "bestCarrier 1 = 2", "bestCarrier 0 = 2", "carry 2 1",
@@ -251,8 +254,8 @@ public final class SackEdgesTest {
 
     /** Promise 22: whether one sack is let. */
     private static void quiet() {
-        then("sleepy", atDoor(0, 1), "isQuiet 0 = true", "carry 0 1", "isQuiet 0 = true", "carry 0 1", "isQuiet 0 = false",
-            "bone", "isQuiet 0 = true", "days 1", "isQuiet 0 = true");
+        then("sleepy", atDoor(0, 1), "isQuiet 0 = true", "carry 0 1", "isQuiet 0 = true", "carry 0 1",
+            "isQuiet 0 = false", "bone", "isQuiet 0 = true", "days 1", "isQuiet 0 = true");
         then("fierce", atDoor(0, 2), "isQuiet 0 = false", "bone", "isQuiet 0 = true", "days 1", "isQuiet 0 = false");
         then("none", DOOR, "isQuiet 0 = true", "carry 0 9", "isQuiet 0 = true",
             "isQuiet 1 throws IndexOutOfBoundsException", "isQuiet -1 throws IndexOutOfBoundsException",

@@ -71,15 +71,16 @@ public final class StreetEdgesTest {
         Script.run("the lowest and the highest house", "8 times house 1 0", "order 0 1 = 0", "order 7 3 = 0",
             "order -1 1 refused 3 -1", "order 8 1 refused 3 8", "order 2147483647 1 refused 3 2147483647",
             "order -2147483648 1 refused 3 -2147483648", "houseOf 0 2 = 1", "houseOf 7 2 = 3");
-        Script.run("no such house, ahead of the range", "house 1 0", "order 1 5 refused 3 1", "order -1 -1 refused 3 -1");
+        Script.run("no such house, ahead of the range", "house 1 0", "order 1 5 refused 3 1",
+            "order -1 -1 refused 3 -1");
         Script.run("a refused order leaves the one before", "house 1 0", "order 0 3 = 0", "order 0 5 refused 1 0",
             "order 0 2 = 3");
     }
 
     /** Promise 4 and "at most 4 carriers, each with a strength from 1 to 9". */
     private static void carriers() {
-        Script.run("the least and the most", "carrier 1 = 0", "carrier 9 = 1", "carrierOf 0 0 = 1", "carrierOf 1 0 = 9",
-            "carrier 0 refused 1 0", "carrier 10 refused 1 0", "carrier -1 refused 1 0",
+        Script.run("the least and the most", "carrier 1 = 0", "carrier 9 = 1", "carrierOf 0 0 = 1",
+            "carrierOf 1 0 = 9", "carrier 0 refused 1 0", "carrier 10 refused 1 0", "carrier -1 refused 1 0",
             "carrier 2147483647 refused 1 0", "carrier -2147483648 refused 1 0", "carrier 5 = 2");
         Script.run("the fourth and the fifth", "3 times carrier 5", "carrier 5 = 3", "carrier 5 refused 2 4",
             "carrier 0 refused 1 0", "carrier 10 refused 1 0", "account 2 = 4");
@@ -125,7 +126,8 @@ public final class StreetEdgesTest {
         then("19 and 20", WORN_BY_16, "drive 3 = 4", "shoeOf 0 = 19", "account 12 = 4", "drive 4 = 0", "shoeOf 0 = 20",
             "account 12 = 0", "drive 0 = 0", "drive 1 refused 5 0", "shoeOf 0 = 20");
         then("no more than 20", WORN_BY_16, "drive 3", "drive 0", "drive 4 = 0", "account 3 = 4", "shoeOf 0 = 20",
-            "shoeOf 1 = 20", "shoeOf 2 = 20", "shoeOf 3 = 20", "account 13 = 23", "drive 3 = 0", "drive 4 refused 5 0");
+            "shoeOf 1 = 20", "shoeOf 2 = 20", "shoeOf 3 = 20", "account 13 = 23", "drive 3 = 0",
+            "drive 4 refused 5 0");
         Script.run("such shoes", "shoeOf 0 = 0", "shoeOf 3 = 0", "shoeOf -1 throws IndexOutOfBoundsException",
             "shoeOf 4 throws IndexOutOfBoundsException", "shoeOf 2147483647 throws IndexOutOfBoundsException",
             "shoeOf -2147483648 throws IndexOutOfBoundsException");
@@ -204,8 +206,8 @@ public final class StreetEdgesTest {
             "houseOf 0 3 = 20", "houseOf 1 3 = 10");
         Script.run("up to 20, from 18", "house 0 0", "order 0 3", "days 30", "days 12 = 18", "days 6 = 18",
             "days 1 = 20", "days 7 = 20");
-        Script.run("up to 20, from 19", "house 0 0", "order 0 3", "days 30", "days 12 = 18", "order 0 1", "days 7 = 19",
-            "order 0 4", "days 7 = 20");
+        Script.run("up to 20, from 19", "house 0 0", "order 0 3", "days 30", "days 12 = 18", "order 0 1",
+            "days 7 = 19", "order 0 4", "days 7 = 20");
         Script.run("an order of none", "house 0 0", "order 0 4", "days 7 = 4", "order 0 0", "days 30 = 4");
         Script.run("a house that is added on the seventh day", "days 7", "house 0 0", "order 0 4", "days 6 = 0",
             "days 1 = 4");

@@ -26,21 +26,24 @@ public final class TextEdgesTest {
 
     /** Promise 26, "if the buffer contains 60 characters". */
     private static void buffer() {
-        Script.run("the first, the sixtieth and one more", "append 100 = 1", "58 times append 49 = 59", "append 49 = 60",
-            "append 49 throws IllegalStateException", "account 15 = 60", FAULT, "account 15 = 0", "append 100 = 1");
+        Script.run("the first, the sixtieth and one more", "append 100 = 1", "58 times append 49 = 59",
+            "append 49 = 60", "append 49 throws IllegalStateException", "account 15 = 60", FAULT, "account 15 = 0",
+            "append 100 = 1");
         Script.run("any character", "append 0 = 1", "append 255 = 2", "append 256 = 3", "append 65535 = 4",
             "append 32 = 5", FAULT, "faultPosition = 0");
         then("a full buffer that has refused one more", EIGHT_DOGS, "text " + LONGEST,
             "append 59 throws IllegalStateException", "commands = 23", "account 0 = 7", "append 100 = 1");
         Script.run("a text that was carried out has left nothing", "text d1", "commands = 1", "append 50 = 1", FAULT,
             "faultPosition = 0");
-        Script.run("a text with a fault has left nothing", "text d1;", FAULT, "text d1", "commands = 1", "account 0 = 1");
+        Script.run("a text with a fault has left nothing", "text d1;", FAULT, "text d1", "commands = 1",
+            "account 0 = 1");
         Script.run("a refused text has left nothing", "text d0", "commands refused 1 0", "text d1", "commands = 1");
     }
 
     /** "One or more commands": none is a fault at the length, 0. */
     private static void emptyTexts() {
-        Script.run("an empty text", FAULT, "faultPosition = 0", "account 14 = 0", "reason 0 throws NoSuchElementException");
+        Script.run("an empty text", FAULT, "faultPosition = 0", "account 14 = 0",
+            "reason 0 throws NoSuchElementException");
         Script.run("an empty text behind a sound one", "text d1", "commands = 1", "faultPosition = -1", FAULT,
             "faultPosition = 0", "account 14 = 1");
         fault(";", 0);
@@ -80,7 +83,8 @@ public final class TextEdgesTest {
 
     /** "The index of its first character that cannot continue such a text, or the length if it ends too early." */
     private static void places() {
-        for (char character : new char[] {0, ' ', '/', ':', 'G', 'a', 'z', '*', '=', '-', '+', 127, 200, 255, 0x661, 0xffff}) {
+        char[] strange = {0, ' ', '/', ':', 'G', 'a', 'z', '*', '=', '-', '+', 127, 200, 255, 0x661, 0xffff};
+        for (char character : strange) {
             strange("", character, 0);
             strange("g", character, 1);
             strange("c1", character == '*' ? 'x' : character, 2);
@@ -93,6 +97,8 @@ public final class TextEdgesTest {
             strange("d12;", character, 4);
             strange("b", character, 1);
         }
+        fault("c12", 2);
+        fault("p12", 2);
         fault("c1=1", 2);
         fault("p1*1", 2);
         fault("g1;x;y", 3);
@@ -109,12 +115,16 @@ public final class TextEdgesTest {
     private static void longTexts() {
         then("60 characters", EIGHT_DOGS, "text " + LONGEST, "account 15 = 60", "commands = 23", "faultPosition = -1",
             "account 14 = 8", "account 0 = 7", "account 11 = 4", "account 3 = 8");
-        then("the last of them is refused", EIGHT_DOGS, "text " + LONGEST.substring(0, 59) + "0", "commands refused 1 0 22",
-            "faultPosition = -1", "account 3 = 0", "account 11 = 12");
+        then("the last of them is refused", EIGHT_DOGS, "text " + LONGEST.substring(0, 59) + "0",
+            "commands refused 1 0 22", "faultPosition = -1", "account 3 = 0", "account 11 = 12");
         then("a fault at the last character", EIGHT_DOGS, "text " + LONGEST.substring(0, 59) + ";", FAULT,
             "faultPosition = 59");
         Script.run("too early at 60", "text " + "b;".repeat(30), "account 15 = 60", FAULT, "faultPosition = 60");
         Script.run("too early at 60, in a command", "text " + "d1;".repeat(19) + "p0=", FAULT, "faultPosition = 60");
+        Script.run("too early at 60, ahead of a sign", "text d10;" + "d1;".repeat(18) + "c0", FAULT,
+            "faultPosition = 60");
+        Script.run("too early, where a longer text went on", "text c0*1;b", "commands refused 3 0", "text c0", FAULT,
+            "faultPosition = 2", "text p0=1;d1", "commands refused 3 0", "text p0=1;", FAULT, "faultPosition = 5");
         Script.run("too early at 59", "text " + "d1;".repeat(19) + "p0", FAULT, "faultPosition = 59");
         Script.run("30 commands", "text " + "b;".repeat(29) + "b", "account 15 = 59", "commands refused 7 0 0",
             "faultPosition = -1");
@@ -135,7 +145,8 @@ public final class TextEdgesTest {
             then("behind another, " + texts[i], hill, "text d1;" + texts[i], "commands refused " + due[i] + " 1",
                 "account 0 = 0");
         }
-        then("the most that is done", hill, "order 0 4", "text l30;d30;g1;c0*2;p0=6", "commands = 5", "account 10 = 6");
+        then("the most that is done", hill, "order 0 4", "text l30;d30;g1;c0*2;p0=6", "commands = 5",
+            "account 10 = 6");
     }
 
     /** "If one is refused, none is carried out"; the numbers of the reason are those at that command. */
@@ -143,14 +154,16 @@ public final class TextEdgesTest {
         String[] hill = {"house 0 0", "order 0 4", "carrier 5", "days 7"};
         then("the second load", hill, "text l30;l1", "commands refused 2 30 1", "account 4 = 0", "account 5 = 100",
             "account 14 = 4");
-        then("arrears of the commands ahead", hill, "text d7;l9;g1;c0*5;c0*1", "commands refused 10 15 4", "account 0 = 7",
-            "account 3 = 0", "account 6 = 4", "account 7 = 0", "carrierOf 0 1 = 0", "shoeOf 0 = 0", "account 13 = 0");
+        then("arrears of the commands ahead", hill, "text d7;l9;g1;c0*5;c0*1", "commands refused 10 15 4",
+            "account 0 = 7", "account 3 = 0", "account 6 = 4", "account 7 = 0", "carrierOf 0 1 = 0", "shoeOf 0 = 0",
+            "account 13 = 0");
         then("a place of the commands ahead", hill, "text g1;l1", "commands refused 6 1 1", "account 3 = 0");
         then("coins of the commands ahead", hill, "text d7;l9;g1;c0*5;p0=9;p0=7", "commands refused 17 6 5",
             "account 9 = 20", "account 10 = 0");
-        then("undo goes behind the refused text", hill, "text d7;d0", "commands refused 1 0 1", "undo = 3", "account 0 = 0");
-        then("one change for all commands", hill, "text l9;g1;c0*4;p0=12", "commands = 4", "account 14 = 5", "undo = 4",
-            "account 4 = 0", "account 3 = 0", "account 10 = 0");
+        then("undo goes behind the refused text", hill, "text d7;d0", "commands refused 1 0 1", "undo = 3",
+            "account 0 = 0");
+        then("one change for all commands", hill, "text l9;g1;c0*4;p0=12", "commands = 4", "account 14 = 5",
+            "undo = 4", "account 4 = 0", "account 3 = 0", "account 10 = 0");
         then("a fault, ahead of a refusal", hill, "text g9;x", FAULT, "faultPosition = 3",
             "reason 0 throws NoSuchElementException");
     }
@@ -158,11 +171,11 @@ public final class TextEdgesTest {
     /** Promise 28, "-1 if that text had no fault or there was no such call". */
     private static void faultPositions() {
         Script.run("no such call", "faultPosition = -1", "text x", "faultPosition = -1");
-        Script.run("the latest call", "text d1x", FAULT, "faultPosition = 2", "text d1", "faultPosition = 2", "commands = 1",
-            "faultPosition = -1", "text x", FAULT, "faultPosition = 0", "text d0", "commands refused 1 0",
-            "faultPosition = -1");
-        Script.run("other calls leave it", "text d1;", FAULT, "days 1", "days 0 refused 1 0", "save", "undo", "restore",
-            "faultPosition = 3");
+        Script.run("the latest call", "text d1x", FAULT, "faultPosition = 2", "text d1", "faultPosition = 2",
+            "commands = 1", "faultPosition = -1", "text x", FAULT, "faultPosition = 0", "text d0",
+            "commands refused 1 0", "faultPosition = -1");
+        Script.run("other calls leave it", "text d1;", FAULT, "days 1", "days 0 refused 1 0", "save", "undo",
+            "restore", "faultPosition = 3");
     }
 
     /** Promise 29, and "with the index of the command of a text, from 0, or 0 for another call". */
@@ -173,8 +186,8 @@ public final class TextEdgesTest {
             "reason 3" + wrong, "reason -1" + wrong, "reason 2147483647" + wrong, "reason -2147483648" + wrong);
         Script.run("such numbers", "drive 5 refused 3 5", "reason 0 = 3", "reason 1 = 5", "reason 2 = 0",
             "reason 3" + wrong, "reason -1" + wrong, "reason 2147483647" + wrong, "reason -2147483648" + wrong);
-        Script.run("the index of another call is 0", "text d1;d1;d0", "commands refused 1 0 2", "shoe 3 refused 19 3 0",
-            "text d1;s9", "commands refused 3 9 1", "days 1", "reason 2 = 1");
+        Script.run("the index of another call is 0", "text d1;d1;d0", "commands refused 1 0 2",
+            "shoe 3 refused 19 3 0", "text d1;s9", "commands refused 3 9 1", "days 1", "reason 2 = 1");
         Script.run("a detail does not stay for the next reason", "shoe 9 refused 3 9", "days 0 refused 1 0");
         Script.run("what leaves it", "shoe 9 refused 3 9", "shoeOf 9 throws IndexOutOfBoundsException", FAULT,
             "undo throws IllegalStateException", "restore throws IllegalStateException", "save", "days 1", "undo",
@@ -186,8 +199,8 @@ public final class TextEdgesTest {
         Script.run("nothing", "house 0 0", "line 0 = 5", "line! 0 = 0:0/0");
         Script.run("each dog", "house 0 0", "house 0 1", "house 0 2", "line! 0 = 0:0/0", "line! 1 = 1:0/0z",
             "line! 2 = 2:0/0!");
-        Script.run("dogs with bones", "house 0 1", "house 0 2", "drive 1", "bone", "drive 2", "bone", "line! 0 = 0:0/0b",
-            "line! 1 = 1:0/0b", "days 1", "line! 0 = 0:0/0z", "line! 1 = 1:0/0!");
+        Script.run("dogs with bones", "house 0 1", "house 0 2", "drive 1", "bone", "drive 2", "bone",
+            "line! 0 = 0:0/0b", "line! 1 = 1:0/0b", "days 1", "line! 0 = 0:0/0z", "line! 1 = 1:0/0!");
         Script.run("a sleepy dog that is awake", "house 0 1", "order 0 4", "carrier 5", "days 7", "load 2", "drive 1",
             "carry 0 2", "isQuiet 0 = false", "line! 0 = 0:2/6z");
         String[] door = {"house 0 0", "order 0 4", "carrier 5", "carrier 9", "days 30", "days 5", "load 30", "drive 1"};
@@ -212,7 +225,8 @@ public final class TextEdgesTest {
         Script.run("an empty line", "character 0" + none, "character -1" + none, "house 0 0", "character 0" + none,
             "line 1" + none, "character 0" + none);
         Script.run("the first, the last and one more", "house 0 1", "line 0 = 6", "character 0 = 0", "character 5 = z",
-            "character 6" + none, "character -1" + none, "character 2147483647" + none, "character -2147483648" + none);
+            "character 6" + none, "character -1" + none, "character 2147483647" + none,
+            "character -2147483648" + none);
         Script.run("a shorter line behind a longer one", "house 0 1", "house 0 0", "line 0 = 6", "line 1 = 5",
             "character 4 = 0", "character 5" + none, "character 0 = 1");
         Script.run("the line stays", "house 0 1", "save", "line 0", "undo", "character 5 = z", "restore",
